@@ -37,13 +37,7 @@ public final class FiveStars {
     // ---- things, names
 
     public int thing(int w) {
-        if (!within(w, 0, MOST_WORTH)) {
-            return BAD;
-        }
-        if (room.things >= MOST_THINGS) {
-            return FULL;
-        }
-        return room.addThing(w);
+        return within(w, 0, MOST_WORTH) ? room.addThing(w) : BAD;
     }
 
     public int thingTold(int thing, int what) {
@@ -76,13 +70,7 @@ public final class FiveStars {
     }
 
     public int name(int born) {
-        if (!isHour(born)) {
-            return BAD;
-        }
-        if (room.names >= MOST_NAMES) {
-            return FULL;
-        }
-        return room.addName(born);
+        return isHour(born) ? room.addName(born) : BAD;
     }
 
     public int nameTold(int name, int what) {
@@ -106,9 +94,6 @@ public final class FiveStars {
     public int word(int kind, int of, int at) {
         if (!isKind(kind) || !isPair(of) || !isMoment(at)) {
             return BAD;
-        }
-        if (room.words.room() < 1) {
-            return FULL;
         }
         return room.words.write(kind, of / 100, of % 100, at / 10, at % 10);
     }
@@ -340,13 +325,7 @@ public final class FiveStars {
     public int text() {
         Text found = reader.read();
         tape.size = 0;
-        if (found == null) {
-            return -100 - reader.fault;
-        }
-        if (room.texts >= MOST_TEXTS) {
-            return FULL;
-        }
-        return room.addText(found);
+        return found == null ? -100 - reader.fault : room.addText(found);
     }
 
     public int textTold(int text, int what) {
@@ -730,7 +709,7 @@ public final class FiveStars {
             return MOST_WORDS - size;
         }
 
-        /** Only called where there is room. */
+        /** The number of the new one, or FULL. */
         int write(int newKind, int thing, int name, int newHour, int newStars) {
             int number = size;
             if (number >= MOST_WORDS) {
@@ -957,7 +936,7 @@ public final class FiveStars {
             z = other.z;
         }
 
-        /** Only called where there is room, as addName and addText are. */
+        /** The number of the new one, or FULL, as addName and addText give it too. */
         int addThing(int w) {
             int number = things;
             if (number >= MOST_THINGS) {
@@ -1139,7 +1118,13 @@ public final class FiveStars {
             if (things == 0) {
                 return 0;
             }
-            int thing = chosen();
+            int thing;
+            if (draw() % 3 == 0) {
+                thing = draw() % things;
+            } else {
+                rank();
+                thing = Math.max(0, atPlace(0));
+            }
             buyers[thing] = Math.min(MOST_BUYERS, buyers[thing] + 1);
             int mean = words.meanOf(thing);
             int off = mean == NONE ? 50 : Math.abs(worth[thing] - mean / 5);
@@ -1150,14 +1135,6 @@ public final class FiveStars {
             int stars = Math.min(MOST_STARS, worth[thing] / 20 + 1);
             words.write(Kinds.BOUGHT, thing, draw() % names, hour, stars);
             return 10 * thing + stars;
-        }
-
-        private int chosen() {
-            if (draw() % 3 == 0) {
-                return things == 0 ? 0 : draw() % things;
-            }
-            rank();
-            return Math.max(0, atPlace(0));
         }
     }
 
@@ -1247,7 +1224,7 @@ public final class FiveStars {
                     stack[top] = name < 0 ? what : name == 0 ? first : name == 1 ? second : name == 2 ? third : fourth;
                     top++;
                 } else if (what == SIGNS + '!' && top >= 1) {
-                    stack[top - 1] = truth(stack[top - 1] == 0);
+                    stack[top - 1] = stack[top - 1] == 0 ? 1 : 0;
                 } else if (what > SIGNS && top >= 2) {
                     top--;
                     stack[top - 1] = worked(what - SIGNS, stack[top - 1], stack[top]);
@@ -1256,22 +1233,18 @@ public final class FiveStars {
             return stack[0];
         }
 
-        private static int truth(boolean holds) {
-            return holds ? 1 : 0;
-        }
-
         private static int worked(int sign, int left, int right) {
             switch (sign) {
                 case '|':
-                    return truth(left != 0 || right != 0);
+                    return left != 0 || right != 0 ? 1 : 0;
                 case '&':
-                    return truth(left != 0 && right != 0);
+                    return left != 0 && right != 0 ? 1 : 0;
                 case '<':
-                    return truth(left < right);
+                    return left < right ? 1 : 0;
                 case '=':
-                    return truth(left == right);
+                    return left == right ? 1 : 0;
                 case '>':
-                    return truth(left > right);
+                    return left > right ? 1 : 0;
                 case '+':
                     return left + right;
                 case '-':
