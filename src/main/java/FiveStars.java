@@ -170,9 +170,9 @@ public final class FiveStars {
             case 0:
                 return room.words.meanOf(thing);
             case 1:
-                return room.weighedOf(thing);
+                return room.weighedOf(thing, true);
             case 2:
-                return room.goodOf(thing);
+                return room.weighedOf(thing, false);
             case 3:
                 return room.spanOf(thing, false);
             case 4:
@@ -996,27 +996,15 @@ public final class FiveStars {
 
         // ---- means
 
-        int weighedOf(int thing) {
+        /** By all WEIGHTS: those times 100 STARS (WEIGHED), or times what is said (GOOD). */
+        int weighedOf(int thing, boolean byStars) {
             int weights = 0;
             int all = 0;
             for (int i = 0; i < words.size; i++) {
                 if (words.of[i] == thing) {
                     int weight = weightOf(i);
                     weights += weight;
-                    all += weight * words.stars[i];
-                }
-            }
-            return weights == 0 ? NONE : 100 * all / weights;
-        }
-
-        int goodOf(int thing) {
-            int weights = 0;
-            int all = 0;
-            for (int i = 0; i < words.size; i++) {
-                if (words.of[i] == thing) {
-                    int weight = weightOf(i);
-                    weights += weight;
-                    all += weight * words.saysOf(i);
+                    all += weight * (byStars ? 100 * words.stars[i] : words.saysOf(i));
                 }
             }
             return weights == 0 ? NONE : all / weights;
@@ -1044,7 +1032,8 @@ public final class FiveStars {
             Text law = lawOf(SHOW);
             for (int i = 0; i < things; i++) {
                 int mean = words.meanOrZero(i);
-                shown[i] = law == null ? mean : law.gives(mean, Math.max(0, weighedOf(i)), words.countOf(i), 0);
+                shown[i] = law == null ? mean
+                    : law.gives(mean, Math.max(0, weighedOf(i, true)), words.countOf(i), 0);
             }
         }
 
