@@ -1,55 +1,5 @@
 /** Each promise of the document by hand: ordinary inputs, the edges that are named, and wrong inputs. */
-public final class PromisesTest {
-    private static final int BAD = FiveStars.BAD, NO = FiveStars.NO, FULL = FiveStars.FULL, NONE = FiveStars.NONE;
-    private static final int NOTHING = FiveStars.NOTHING, KIND = FiveStars.KIND, INDEX = FiveStars.INDEX,
-        SIZE = FiveStars.SIZE;
-    private static final int MAX = Integer.MAX_VALUE, MIN = Integer.MIN_VALUE;
-
-    private static int promise = 0;
-    private static int wrong = 0;
-    private static int asked = 0;
-
-    private static void due(String call, int got, int want) {
-        asked++;
-        if (got != want) {
-            wrong++;
-            System.out.println("promise " + promise + ": " + call + " answered " + got + ", due is " + want);
-        }
-    }
-
-    private static FiveStars made(int things, int names) {
-        FiveStars x = new FiveStars();
-        for (int i = 0; i < things; i++) {
-            x.thing(50);
-        }
-        for (int i = 0; i < names; i++) {
-            x.name(10 * i);
-        }
-        return x;
-    }
-
-    private static int four(String s, int at) {
-        return s.charAt(at) << 24 | s.charAt(at + 1) << 16 | s.charAt(at + 2) << 8 | s.charAt(at + 3);
-    }
-
-    private static void tape(FiveStars x, String s) {
-        String padded = s + " ".repeat((12 - s.length() % 12) % 12);
-        x.trim(0);
-        for (int i = 0; i < padded.length(); i += 12) {
-            x.feed(four(padded, i), four(padded, i + 4), four(padded, i + 8));
-        }
-        x.trim(s.length());
-    }
-
-    private static int law(FiveStars x, String s) {
-        tape(x, s);
-        return x.text();
-    }
-
-    private static void dueLaw(FiveStars x, String s, int want) {
-        due("text() of '" + s + "'", law(x, s), want);
-    }
-
+public final class PromisesTest extends Hand {
     // ---- 1 .. 6: things, names
 
     private static void newObject() {
@@ -494,31 +444,6 @@ public final class PromisesTest {
 
     // ---- 22 .. 24: buyers, jobs
 
-    /** The seed after n draws from z. */
-    private static int drawn(int z, int n) {
-        int now = z;
-        for (int i = 0; i < n; i++) {
-            now = now * 1103515245 + 12345;
-        }
-        return now;
-    }
-
-    /** The first seed from which the draws' rests are as wanted (-1: any). */
-    private static int seedFor(int[] by, int[] rests) {
-        for (int z = 0; z < 10000000; z++) {
-            boolean fits = true;
-            int now = z;
-            for (int i = 0; i < by.length && fits; i++) {
-                now = drawn(now, 1);
-                fits = rests[i] < 0 || (now >>> 8) % by[i] == rests[i];
-            }
-            if (fits) {
-                return z;
-            }
-        }
-        return 0;
-    }
-
     private static void buyers() {
         promise = 22;
         due("no THINGS", new FiveStars().buy(1, 0), NO);
@@ -532,7 +457,7 @@ public final class PromisesTest {
         due("z is as it was", x.count(7), 1);
 
         // A drawn THING, of which the buyer writes, for 49 is below 50.
-        int z = seedFor(new int[] {3, 3, 100, 4}, new int[] {0, 1, 49, 3});
+        int z = seedFor(new int[] {3, 3, 100, 4}, 0, 1, 49, 3);
         x.seed(z);
         due("one writes", x.buy(1, 7), 1);
         due("four draws", x.count(7), drawn(z, 4));
@@ -544,7 +469,7 @@ public final class PromisesTest {
         due("STARS, 5 at most", x.told(0, 4), 5);
 
         // THE SHELF's first one (THING 1 now), as good as it was looked for: OFF is 0.
-        z = seedFor(new int[] {3, 100}, new int[] {1, 0});
+        z = seedFor(new int[] {3, 100}, 1, 0);
         x.seed(z);
         due("nothing to write", x.buy(1, 7), 0);
         due("two draws", x.count(7), drawn(z, 2));
@@ -552,23 +477,23 @@ public final class PromisesTest {
 
         // OFF is 100 less 60 once another has written 1 star: 39 writes, 40 does not.
         x.word(0, 100, 71);
-        x.seed(seedFor(new int[] {3, 3, 100}, new int[] {0, 1, 40}));
+        x.seed(seedFor(new int[] {3, 3, 100}, 0, 1, 40));
         due("40 of 40", x.buy(1, 7), 0);
-        x.seed(seedFor(new int[] {3, 3, 100}, new int[] {0, 1, 39}));
+        x.seed(seedFor(new int[] {3, 3, 100}, 0, 1, 39));
         due("39 of 40", x.buy(1, 999), 1);
 
         // The shelf is looked at anew for each buyer.
         FiveStars anew = made(2, 1);
         anew.set(0, 0, 0);
         anew.word(0, 100, 11);
-        z = seedFor(new int[] {3, 100, 3, 2, 100, 1, 3}, new int[] {1, 99, 0, 0, 0, -1, 2});
+        z = seedFor(new int[] {3, 100, 3, 2, 100, 1, 3}, 1, 99, 0, 0, 0, -1, 2);
         anew.seed(z);
         anew.buy(3, 0);
         due("by numbers once both have 100", anew.thingTold(0, 1), 2);
 
         // Neither without NAMES nor without room is there a last draw.
         FiveStars none = made(1, 0);
-        z = seedFor(new int[] {3, 100}, new int[] {1, 0});
+        z = seedFor(new int[] {3, 100}, 1, 0);
         none.seed(z);
         due("without NAMES", none.buy(1, 0), 0);
         due("two draws", none.count(7), drawn(z, 2));
@@ -932,13 +857,6 @@ public final class PromisesTest {
         due("NO NUMBER too", x.item(0, 3), KIND);
     }
 
-    private static void dueRow(FiveStars x, int sheet, int... row) {
-        x.lay(4, 2, sheet);
-        for (int i = 0; i < row.length; i++) {
-            due("place " + i, x.item(4, i), row[i]);
-        }
-    }
-
     private static void slots() {
         promise = 35;
         FiveStars x = made(1, 1);
@@ -1033,7 +951,7 @@ public final class PromisesTest {
         due("no THINGS in THE IMAGE", empty.check(1, 0), NO);
 
         // Two who come by THE IMAGE: THING 1, with 3 stars (w 50); then the same one, of which nothing is written.
-        int z = seedFor(new int[] {3, 2, 100, 1, 3, 100}, new int[] {0, 1, 49, -1, 1, 99});
+        int z = seedFor(new int[] {3, 2, 100, 1, 3, 100}, 0, 1, 49, -1, 1, 99);
         x.seed(z);
         x.keep();
         x.seed(1);
@@ -1160,7 +1078,6 @@ public final class PromisesTest {
         slots();
         rows();
         images();
-        System.out.println(wrong == 0 ? asked + " answers are as due" : wrong + " answers are not as due");
-        System.exit(wrong == 0 ? 0 : 1);
+        end();
     }
 }
