@@ -115,6 +115,14 @@ final class EdgesOfMeans extends Hand {
         dueSpan(worst, 0, 0, 0);
         dueSpan(worst, 1, 0, 0);
 
+        edge(13, "SPAN: what its WORDS SAY, together (low)");
+        FiveStars each = made(1, 1);
+        for (int kind = 0; kind < 6; kind++) {
+            each.word(kind, 0, 11);
+        }
+        dueSpan(each, 6, 221 / 6, 221 / 6);
+        dueSpan(each, 7, 221 / 7, 321 / 7);
+
         edge(13, "100 for each of BUYERS who are more than its WORDS (high)");
         dueSpan(three, 4, 45, 70);
         dueSpan(three, 5, 36, 76);

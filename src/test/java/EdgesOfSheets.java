@@ -2,6 +2,7 @@
 final class EdgesOfSheets extends Hand {
     static void all() {
         sheet();
+        findings();
         sheetAnew();
         markPlaces();
         markShorts();
@@ -58,6 +59,44 @@ final class EdgesOfSheets extends Hand {
             FiveStars x = withSheet(0, 3);
             due("sheet(0, -1, " + n + ")", x.sheet(0, -1, n), 0);
             due("it is MISSING", x.mark(0, 0, 1), NOTHING);
+        }
+    }
+
+    private static void findings() {
+        edge(30, "SIZE: a number of places is below 0");
+        FiveStars x = toLay();
+        due("SIZE leaves it MISSING", x.sheet(1, 0, -1), SIZE);
+        due("SIZE leaves it MISSING", x.reads(1), NOTHING);
+        due("SIZE leaves it as it is", x.sheet(3, 0, -1), SIZE);
+        due("SIZE leaves it as it is", x.mark(3, 23, NONE), 1);
+
+        edge(31, "NOTHING: a SHEET is MISSING, a SLOT holds nothing");
+        x.sheet(2, 0, 1);
+        x.sheet(2, -1, 1);
+        for (int sheet = 1; sheet <= 2; sheet++) {
+            due("mark", x.mark(sheet, 0, 1), NOTHING);
+            due("pour", x.pour(sheet, 0), NOTHING);
+            due("reads", x.reads(sheet), NOTHING);
+            due("copy from it", x.copy(sheet, 0, 0, 0, 0), NOTHING);
+            due("copy to it", x.copy(0, 0, sheet, 0, 0), NOTHING);
+            due("copy within it", x.copy(sheet, 0, sheet, 0, 0), NOTHING);
+            due("lay", x.lay(0, 2, sheet), NOTHING);
+        }
+        x.lay(4, 2, 0);
+        x.lay(4, 0, 0);
+        for (int slot = 0; slot <= 4; slot += 4) {
+            due("ask", x.ask(slot, 0), NOTHING);
+            due("item", x.item(slot, 0), NOTHING);
+            due("rest", x.rest(slot, 1), NOTHING);
+        }
+
+        edge(31, "A place of floats may be NO NUMBER.");
+        for (int place = 0; place < 24; place++) {
+            due("NO NUMBER at " + place, x.mark(3, place, NONE), 1);
+        }
+        x.lay(1, 2, 3);
+        for (int place = 0; place < 24; place++) {
+            due("item(1, " + place + ")", x.item(1, place), KIND);
         }
     }
 

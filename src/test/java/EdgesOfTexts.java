@@ -14,6 +14,8 @@ final class EdgesOfTexts extends Hand {
         signsBehindPieces();
         wordsAndBlanks();
         numbers();
+        repeats();
+        firstFault();
         tests();
         open();
         theEnd();
@@ -240,6 +242,44 @@ final class EdgesOfTexts extends Hand {
             dueLaw(new FiveStars(), "show (" + number.substring(number.length() - 5) + ")", -106);
         }
         dueLaw(new FiveStars(), "show 1234 5", -110);
+    }
+
+    private static void repeats() {
+        edge(27, "OR: AND { | AND }; AND: TEST { & TEST }");
+        dueRepeats('|');
+        dueRepeats('&');
+
+        edge(27, "SUM: TERM { (+ | -) TERM }; TERM: PIECE { (* | /) PIECE }");
+        for (char sign : "+-*/".toCharArray()) {
+            dueRepeats(sign);
+        }
+    }
+
+    /** None of it, one, and as many as THE TAPE has room for. */
+    private static void dueRepeats(char sign) {
+        for (int many : new int[] {0, 1, 2, 45}) {
+            FiveStars x = new FiveStars();
+            dueLaw(x, "show " + ("m" + sign).repeat(many) + "w", 0);
+            due("NUMBERS and NAMES", x.textTold(0, 1), many + 1);
+        }
+        dueLaw(new FiveStars(), "show " + sign, -105);
+        dueLaw(new FiveStars(), "show " + sign + "m", -105);
+        dueLaw(new FiveStars(), "show m" + sign, -107);
+        dueLaw(new FiveStars(), "show m" + sign + sign + "w", -107);
+        dueLaw(new FiveStars(), "show m" + sign + ")", -107);
+    }
+
+    private static void firstFault() {
+        edge(27, "FAULT: the first byte of the first word or sign with which no TEXT goes on");
+        dueLaw(new FiveStars(), "shows m m ) 12345", -100);
+        dueLaw(new FiveStars(), "  shows m", -102);
+        dueLaw(new FiveStars(), "show  mwc ) 12345", -106);
+        dueLaw(new FiveStars(), "show  12345 ) mwc", -106);
+        dueLaw(new FiveStars(), "show m  weigh )", -108);
+        dueLaw(new FiveStars(), "show m  1234", -108);
+        dueLaw(new FiveStars(), "show (m+s)+", -108);
+        dueLaw(new FiveStars(), "show m+w)+s", -108);
+        dueLaw(new FiveStars(), "weigh s weigh s", -108);
     }
 
     private static void tests() {

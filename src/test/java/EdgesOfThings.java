@@ -313,6 +313,19 @@ final class EdgesOfThings extends Hand {
             dueWeights(x, by, 9, 10, 8, 5, 8, 0, 0);
         }
 
+        edge(8, "BOUGHT: as WORD, and 1.");
+        law(x, "weigh 9");
+        due("9 and 1, not held within 9", x.told(1, 5), 10);
+        law(x, "weigh 0");
+        due("0 and 1", x.told(1, 5), 1);
+        law(x, "weigh 0-5");
+        due("0 (held) and 1", x.told(1, 5), 1);
+
+        edge(8, "RIVAL: 0.");
+        due("by -5", x.told(5, 5), 0);
+        law(x, "weigh 9");
+        due("by 9", x.told(5, 5), 0);
+
         edge(8, "PAID: as WORD, less 1, 0 at least.");
         law(x, "weigh 1");
         dueWeights(x, "1", 1, 2, 0, 1, 0, 0, 0);

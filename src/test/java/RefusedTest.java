@@ -398,6 +398,8 @@ public final class RefusedTest extends Hand {
                 METHODS.put(m.getName(), m);
             }
         }
+        edge(0, "A call that is refused answers one of BAD, NO, FULL, or a FINDING, of several the one that stands first with"
+            + " it, and changes nothing (but the tape and the numbers that wait, where told).");
         due("the rich one's row", state(RICH).call("check(3, 999)"), 0);
         due("the full one's row", state(FULL_ONE).call("check(30, 999)"), 0);
         thingsAndWords();
