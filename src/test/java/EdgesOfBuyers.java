@@ -37,7 +37,7 @@ final class EdgesOfBuyers extends Hand {
     }
 
     private static void draws() {
-        edge(22, "z becomes z * 1103515245 + 12345 (an int); it gives z >>> 8");
+        edge(22, "A draw: z becomes z * 1103515245 + 12345 (an int); it gives z >>> 8");
         for (int z : new int[] {0, 1, -1, MAX, MIN, 1 << 30, -12345, 99999999, NONE}) {
             // Each time two draws, or three where the THING is drawn: without NAMES nothing more.
             FiveStars x = made(1, 0);
@@ -66,8 +66,8 @@ final class EdgesOfBuyers extends Hand {
     }
 
     private static void bought() {
-        edge(22, "if the rest of a draw by 3 is 0 the THING of a draw's rest by how many THINGS there are,"
-            + " else the first one of THE SHELF");
+        edge(22, "A BUYER comes (in an HOUR that is told): buys: if the rest of a draw by 3 is 0 the THING of a draw's rest"
+            + " by how many THINGS there are, else the first one of THE SHELF");
         for (int things = 1; things <= 6; things++) {
             for (int thing = 0; thing < things; thing++) {
                 FiveStars x = made(things, 0);
@@ -151,7 +151,7 @@ final class EdgesOfBuyers extends Hand {
     }
 
     private static void starsByWorth() {
-        edge(22, "its STARS w / 20 and 1 (5 at most)");
+        edge(22, "a WORD (KIND BOUGHT), its STARS w / 20 and 1 (5 at most)");
         int[] worths = {0, 1, 19, 20, 39, 40, 59, 60, 79, 80, 99, 100};
         int[] stars = {1, 1, 1, 2, 2, 3, 3, 4, 4, 5, 5, 5};
         for (int i = 0; i < worths.length; i++) {
@@ -243,7 +243,8 @@ final class EdgesOfBuyers extends Hand {
     }
 
     private static void jobRounds() {
-        edge(23, "by NAMES from 0 on, round and round, in HOURS one behind the other");
+        edge(23, "A JOB: n WORDS (KIND PAID) of a THING with so many STARS, by NAMES from 0 on, round and round,"
+            + " in HOURS one behind the other");
         for (int names : new int[] {1, 2, 5, 11, 12}) {
             FiveStars x = made(2, names);
             due("job", x.job(1, 12, 988, 4), 0);

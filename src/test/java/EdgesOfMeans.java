@@ -29,13 +29,13 @@ final class EdgesOfMeans extends Hand {
     // ---- 13
 
     private static void mean() {
-        edge(13, "what 0 MEAN, 1 WEIGHED, 2 GOOD, 3 SPAN's low, 4 SPAN's high, 5 a STAR's worth. BAD; NONE.");
+        edge(13, "Of a THING: what 0 MEAN, 1 WEIGHED, 2 GOOD, 3 SPAN's low, 4 SPAN's high, 5 a STAR's worth. BAD; NONE.");
         range("mean(0, what)", 0, 500, 5, 0, v -> spoken(1, 1, 1).mean(0, v));
         range("mean(thing, 5) of one", 0, 500, 0, 500, v -> made(1, 0).mean(v, 5));
         range("mean(thing, 0) of six", 0, 500, 5, NONE, v -> spoken(6, 1, 1).mean(v, 0));
         due("BAD stands ahead of NONE", made(1, 0).mean(0, 6), BAD);
 
-        edge(13, "100 times all STARS of its WORDS, together, by how many they are (NONE without any)");
+        edge(13, "MEAN of a THING: 100 times all STARS of its WORDS, together, by how many they are (NONE without any)");
         due("without any", made(1, 1).mean(0, 0), NONE);
         due("of another THING", spoken(2, 1, 24).mean(1, 0), NONE);
         due("the least", starred(1).mean(0, 0), 100);
@@ -58,7 +58,7 @@ final class EdgesOfMeans extends Hand {
     }
 
     private static void weighed() {
-        edge(13, "100 times all WEIGHTS times STARS, by all WEIGHTS (NONE, if these are 0)");
+        edge(13, "WEIGHED: 100 times all WEIGHTS times STARS, by all WEIGHTS (NONE, if these are 0)");
         due("without WORDS", made(1, 1).mean(0, 1), NONE);
         FiveStars zero = made(1, 1);
         zero.word(5, 0, 15);
@@ -81,7 +81,7 @@ final class EdgesOfMeans extends Hand {
         }
         due("the most WEIGHTS", most.mean(0, 1), 500);
 
-        edge(13, "all WEIGHTS times what they SAY, by all WEIGHTS (NONE likewise)");
+        edge(13, "GOOD: all WEIGHTS times what they SAY, by all WEIGHTS (NONE likewise)");
         due("without WORDS", made(1, 1).mean(0, 2), NONE);
         due("the most WEIGHTS", most.mean(0, 2), 100);
         zero.drop(2);
@@ -123,7 +123,7 @@ final class EdgesOfMeans extends Hand {
         dueSpan(each, 6, 221 / 6, 221 / 6);
         dueSpan(each, 7, 221 / 7, 321 / 7);
 
-        edge(13, "100 for each of BUYERS who are more than its WORDS (high)");
+        edge(13, "and 100 for each of BUYERS who are more than its WORDS (high)");
         dueSpan(three, 4, 45, 70);
         dueSpan(three, 5, 36, 76);
         dueSpan(three, 7, 25, 82);
@@ -136,7 +136,7 @@ final class EdgesOfMeans extends Hand {
     }
 
     private static void starsWorth() {
-        edge(13, "by how much MEAN would be more, if one more WORD had 5 STARS (500, if there is none)");
+        edge(13, "A STAR's worth: by how much MEAN would be more, if one more WORD had 5 STARS (500, if there is none)");
         due("none", made(1, 1).mean(0, 5), 500);
         due("none of it", spoken(2, 1, 24).mean(1, 5), 500);
         due("all have 5", spoken(1, 1, 1).mean(0, 5), 0);
@@ -192,7 +192,7 @@ final class EdgesOfMeans extends Hand {
     }
 
     private static void shelfByLaw() {
-        edge(14, "THINGS by what show gives");
+        edge(14, "THE SHELF: THINGS by what show gives");
         FiveStars x = made(4, 1);
         x.word(0, 100, 15);
         x.word(0, 200, 13);
@@ -256,7 +256,8 @@ final class EdgesOfMeans extends Hand {
         due("5 by 5", x.alike(0, 1, 5), 1);
         due("5 by 6", x.alike(0, 1, 6), 1);
 
-        edge(15, "THINGS of which each of both has a WORD, with as many STARS");
+        edge(15, "ALIKE are two NAMES within w HOURS so many times: THINGS of which each of both has a WORD,"
+            + " with as many STARS");
         x.star(1, 2);
         due("a STAR less", x.alike(0, 1, 5), 0);
         x.star(1, 4);
@@ -292,7 +293,7 @@ final class EdgesOfMeans extends Hand {
         due("one NAME", made(0, 1).group(6, 0), 1);
         due("twelve without WORDS", made(1, 12).group(1, 999), 1);
 
-        edge(16, "a set of NAMES any two of which are ALIKE within w k times or more");
+        edge(16, "GROUP by k within w: a set of NAMES any two of which are ALIKE within w k times or more");
         FiveStars six = made(6, 3);
         for (int i = 0; i < 6; i++) {
             six.word(0, 100 * i + 1, 11);
@@ -346,7 +347,8 @@ final class EdgesOfMeans extends Hand {
     }
 
     private static void waveEnds() {
-        edge(17, "the HOUR from which on (w HOURS, it among them) most WORDS are written; of several the least");
+        edge(17, "WAVE of w HOURS: the HOUR from which on (w HOURS, it among them) most WORDS are written;"
+            + " of several the least");
         FiveStars x = made(2, 2);
         x.word(0, 0, 101);
         x.word(5, 101, 144);
@@ -402,7 +404,7 @@ final class EdgesOfMeans extends Hand {
         range("changed(thing, 0) of six", 0, NONE, 5, NONE, v -> made(6, 1).changed(v, 0));
         due("BAD stands ahead of NONE", made(1, 1).changed(0, 2), BAD);
 
-        edge(18, "in the HOUR t of a WORD of it, ahead of which there is another one");
+        edge(18, "CHANGED is a THING in the HOUR t of a WORD of it, ahead of which there is another one");
         dueChange(hours(), NONE, NONE);
         dueChange(hours(15), NONE, NONE);
         dueChange(hours(15, 11, 13), NONE, NONE);
@@ -455,7 +457,8 @@ final class EdgesOfMeans extends Hand {
         due("no WORDS", made(1, 1).off(0, 0), 0);
         due("no WORDS", made(1, 1).off(0, 1), 0);
 
-        edge(19, "WORDS of which the SIGN is v or more: FOUND are those of them that are not TRUE, WRONGED those that are");
+        edge(19, "TAKEN OFF by a bound v: WORDS of which the SIGN is v or more: FOUND are those of them that are not TRUE,"
+            + " WRONGED those that are");
         int[] found = {3, 3, 3, 3, 2, 2, 2, 2, 2, 2, 0};
         int[] wronged = {3, 2, 1, 1, 0, 0, 0, 0, 0, 0, 0};
         FiveStars x = signed();
@@ -475,7 +478,7 @@ final class EdgesOfMeans extends Hand {
         edge(20, "BEST BOUND: what 0 it, 1 FOUND less WRONGED. BAD.");
         range("bound", 0, 9, 1, 2, v -> signed().bound(v));
 
-        edge(20, "v 0 .. 10 with the most FOUND less WRONGED; of several the greatest v");
+        edge(20, "BEST BOUND: v 0 .. 10 with the most FOUND less WRONGED; of several the greatest v");
         dueBound(new FiveStars(), 10, 0);
         dueBound(spoken(1, 1, 24), 10, 0);
         dueBound(signed(), 9, 2);

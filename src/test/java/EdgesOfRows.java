@@ -124,8 +124,8 @@ final class EdgesOfRows extends Hand {
     }
 
     private static void checkByImage() {
-        edge(40, "of n BUYERS who come in that HOUR, one behind the other, by THE IMAGE: the THING, and the STARS"
-            + " (0: nothing is written)");
+        edge(40, "THE BUYERS TOLD of an HOUR: of n BUYERS who come in that HOUR, one behind the other, by THE IMAGE:"
+            + " the THING, and the STARS (0: nothing is written)");
         // What THE IMAGE tells ahead of time is what happens behind back().
         for (int seed : new int[] {1, 12345, -7, MIN, MAX}) {
             FiveStars x = new FiveStars();

@@ -70,7 +70,7 @@ final class EdgesOfSheets extends Hand {
         due("SIZE leaves it as it is", x.sheet(3, 0, -1), SIZE);
         due("SIZE leaves it as it is", x.mark(3, 23, NONE), 1);
 
-        edge(31, "NOTHING: a SHEET is MISSING, a SLOT holds nothing");
+        edge(31, "FINDINGS: NOTHING: a SHEET is MISSING, a SLOT holds nothing");
         x.sheet(2, 0, 1);
         x.sheet(2, -1, 1);
         for (int sheet = 1; sheet <= 2; sheet++) {
@@ -147,7 +147,7 @@ final class EdgesOfSheets extends Hand {
     }
 
     private static void markShorts() {
-        edge(31, "(of shorts its lowest 16 bits;");
+        edge(31, "A place of a SHEET becomes v (of shorts its lowest 16 bits;");
         int[] marks = {32767, 32768, -32768, -32769, 65535, 65536, 65537, MAX, MIN, -1, NONE + 1, NONE - 1, BAD, 100000};
         int[] become = {32767, -32768, -32768, 32767, -1, 0, 1, -1, 0, -1, 13820, 13818, 13823, -31072};
         FiveStars x = withSheet(0, 14);
@@ -216,8 +216,8 @@ final class EdgesOfSheets extends Hand {
     }
 
     private static void pourMoments() {
-        edge(32, "place by place from 0 on (10 times HOUR, and STARS), up to the first that is NO NUMBER or no such:"
-            + " how many came.");
+        edge(32, "WORDS (KIND 0) of a THING by a NAME come from a SHEET, place by place from 0 on (10 times HOUR,"
+            + " and STARS), up to the first that is NO NUMBER or no such: how many came.");
         for (int sort = 0; sort <= 1; sort++) {
             for (int at : new int[] {1, 5, 11, 15, 9991, 9995}) {
                 FiveStars x = withSheet(sort, 1);

@@ -93,7 +93,7 @@ final class EdgesOfTexts extends Hand {
     // ---- 27
 
     private static void usedUp() {
-        edge(27, "(96 bytes at most; an act that reads it uses it up, whatever it answers)");
+        edge(27, "from THE TAPE (96 bytes at most; an act that reads it uses it up, whatever it answers)");
         FiveStars x = new FiveStars();
         dueLaw(x, "show m", 0);
         due("by a TEXT", x.count(6), 0);
@@ -128,7 +128,7 @@ final class EdgesOfTexts extends Hand {
     }
 
     private static void keys() {
-        edge(27, "KEY: weigh | sign | show.");
+        edge(27, "KEY E. KEY: weigh | sign | show.");
         for (String key : KEYS) {
             int end = key.length();
             dueLaw(new FiveStars(), key + " 1", 0);
@@ -166,7 +166,7 @@ final class EdgesOfTexts extends Hand {
     }
 
     private static void signsOfPieces() {
-        edge(27, "NUMBER (1 to 4 digits) | NAME | ! PIECE | ( E )");
+        edge(27, "PIECE: NUMBER (1 to 4 digits) | NAME | ! PIECE | ( E )");
         for (int b = 0; b < 256; b++) {
             char c = (char) b;
             boolean begins = c >= '0' && c <= '9' || "mwc".indexOf(c) >= 0;
@@ -283,7 +283,7 @@ final class EdgesOfTexts extends Hand {
     }
 
     private static void tests() {
-        edge(27, "SUM [ (< | = | >) SUM ]");
+        edge(27, "TEST: SUM [ (< | = | >) SUM ]");
         for (char one : "<=>".toCharArray()) {
             dueLaw(new FiveStars(), "show m" + one + "w", 0);
             for (char two : "<=>".toCharArray()) {

@@ -209,7 +209,8 @@ final class EdgesOfThings extends Hand {
         due("room for one", full.word(0, 0, 15), 23);
         due("and for no more", full.word(0, 0, 15), FULL);
 
-        edge(7, "of KINDS: 0 WORD; 1 BOUGHT, 2 PAID, 5 RIVAL, under WORD; 3 THANKED, under BOUGHT; 4 MOVED, under PAID");
+        edge(7, "and of KINDS: 0 WORD; 1 BOUGHT, 2 PAID, 5 RIVAL, under WORD; 3 THANKED, under BOUGHT; 4 MOVED, under PAID"
+            + " (all are WORDS).");
         range("word(kind, 0, 15)", 0, 0, 5, 0, v -> made(1, 1).word(v, 0, 15));
 
         edge(7, "its number. BAD; FULL.");
@@ -235,7 +236,7 @@ final class EdgesOfThings extends Hand {
         due("a great one", made(6, 12).word(0, 2147483600, 15), BAD);
         due("a small one", made(6, 12).word(0, -2147483600, 15), BAD);
 
-        edge(7, "in an HOUR 0 .. 999, with STARS 1 .. 5");
+        edge(7, "by a NAME, of a THING, in an HOUR 0 .. 999, with STARS 1 .. 5");
         for (int at = -20; at <= 10020; at += at == 40 ? 9900 : 1) {
             boolean isMoment = at >= 0 && at < 10000 && at % 10 >= 1 && at % 10 <= 5;
             FiveStars x = made(1, 1);
@@ -300,7 +301,7 @@ final class EdgesOfThings extends Hand {
             x.word(kind, 0, 25);
         }
         x.word(4, 0, 35);
-        edge(8, "WORD: what weigh gives, held within 0 .. 9 (without a TEXT: 2)");
+        edge(8, "WEIGHT: WORD: what weigh gives, held within 0 .. 9 (without a TEXT: 2)");
         dueWeights(x, "no TEXT", 2, 3, 1, 1, 1, 0, 0);
         String[] less = {"0-9999", "0-1", "0", "8192*8192*32"};
         for (String by : less) {

@@ -2,6 +2,7 @@ import java.io.IOException;
 import java.io.UncheckedIOException;
 import java.nio.file.Files;
 import java.nio.file.Path;
+import java.util.Arrays;
 import java.util.Set;
 import java.util.TreeSet;
 import java.util.function.IntUnaryOperator;
@@ -12,7 +13,8 @@ abstract class Hand {
     static final int NOTHING = FiveStars.NOTHING, KIND = FiveStars.KIND, INDEX = FiveStars.INDEX, SIZE = FiveStars.SIZE;
     static final int MAX = Integer.MAX_VALUE, MIN = Integer.MIN_VALUE;
 
-    private static final String DOCUMENT = document();
+    static final String DOCUMENT = document();
+    private static final boolean[] QUOTED = new boolean[DOCUMENT.length()];
 
     static int promise = 0;
     static final Set<Integer> promises = new TreeSet<>();
@@ -33,8 +35,29 @@ abstract class Hand {
         promise = number;
         sentence = words;
         promises.add(number);
-        if (!DOCUMENT.contains(words)) {
+        int at = DOCUMENT.indexOf(words);
+        if (at < 0) {
             fail("the document does not say '" + words + "'");
+        }
+        while (at >= 0) {
+            Arrays.fill(QUOTED, at, at + words.length(), true);
+            at = DOCUMENT.indexOf(words, at + 1);
+        }
+    }
+
+    /** Of the document from one heading on up to another all but the headings must have been quoted. */
+    static void dueQuoted(String from, String to) {
+        StringBuilder rest = new StringBuilder();
+        for (int i = DOCUMENT.indexOf(from); i < DOCUMENT.indexOf(to); i++) {
+            rest.append(QUOTED[i] ? '\n' : DOCUMENT.charAt(i));
+        }
+        String signature = "## Promise \\d+: [\\w ]+ `(int )?\\w+\\([^`]*\\)`:";
+        String[] left = rest.toString().replaceAll(signature + "|```text|```|=+ \\d|## \\w+", "\n").split("\n+");
+        sentence = "";
+        for (String words : left) {
+            if (words.matches(".*\\w.*")) {
+                fail("no test quotes '" + words.trim() + "'");
+            }
         }
     }
 

@@ -43,7 +43,7 @@ public final class RulesTest {
         return due;
     }
 
-    private static void face() throws IOException {
+    private static void face() throws IOException, ReflectiveOperationException {
         Set<String> methods = new TreeSet<>();
         List<String> seen = new ArrayList<>();
         Set<String> publicNames = new TreeSet<>();
@@ -72,7 +72,19 @@ public final class RulesTest {
         }
         due("the constants", constants, new TreeSet<>(Arrays.stream(
             "BAD NO FULL NONE NOTHING KIND INDEX SIZE".split(" ")).map(s -> s + "true").toList()));
+        constantsOfTheDocument();
         insideClasses(publicNames);
+    }
+
+    private static void constantsOfTheDocument() throws IOException, ReflectiveOperationException {
+        Matcher row = Pattern.compile("public static final int ([^;]*);").matcher(Files.readString(Path.of(DOCUMENT)));
+        due("the document tells constants", row.find(), true);
+        String[] told = row.group(1).split(", ");
+        due("how many constants", told.length, 8);
+        for (String constant : told) {
+            String[] parts = constant.split(" = ");
+            due(parts[0], FiveStars.class.getField(parts[0]).getInt(null), Integer.parseInt(parts[1]));
+        }
     }
 
     private static void insideClasses(Set<String> publicNames) {
@@ -173,7 +185,7 @@ public final class RulesTest {
         none("rows and methods that are too long", found);
     }
 
-    public static void main(String[] args) throws IOException {
+    public static void main(String[] args) throws IOException, ReflectiveOperationException {
         face();
         source();
         System.out.println(wrong == 0 ? "the face and the rules hold" : wrong + " rules do not hold");
